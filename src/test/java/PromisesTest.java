@@ -40,6 +40,7 @@ public final class PromisesTest {
         marked();
         count();
         manyCalls();
+        oldOpsAreNotMistakenForNewOnes();
         Check.end();
     }
 
@@ -331,6 +332,10 @@ public final class PromisesTest {
         Check.due("was wrong", x.address(store, 7), 1);
         x.number(store, 1);
         Check.due("all known", x.tried(load), 1);
+        int unknownLoad = x.op(LOAD, 1, 0);
+        int behindLoad = load(x, 1, 2, 7);
+        Check.due("a load's address does not matter", x.tried(behindLoad), 1);
+        x.forget(unknownLoad);
         int unknown = x.op(STORE, 1, 0);
         int sameMark = load(x, 1, 2, 7);
         int otherMark = load(x, 1, 3, 7);
@@ -391,6 +396,18 @@ public final class PromisesTest {
         Check.due("source store", x.source(load, 3), waiting);
         Check.due("from stores", x.count(6), 1);
         Check.due("from elsewhere", x.count(7), 3);
+
+        LoadStoreRows y = new LoadStoreRows();
+        y.other(70, 0x66);
+        y.other(73, 0x77);
+        store(y, 2, 71, 0x1122);
+        int waits = load(y, 4, 0, 70);
+        y.tried(waits);
+        Check.due("beside a store that waits", y.loaded(waits), 0x66112277);
+        y.leave();
+        int held = load(y, 4, 0, 70);
+        y.tried(held);
+        Check.due("beside a store in the buffer", y.loaded(held), 0x66112277);
     }
 
     private static void loaded() {
@@ -552,6 +569,10 @@ public final class PromisesTest {
         int noAddress = x.op(EXCHANGE, 1, 0);
         x.number(noAddress, 1);
         Check.due("no address", x.leave(), NONE);
+        x.address(noAddress, 1);
+        x.leave();
+        x.address(x.op(EXCHANGE, 1, 0), 1);
+        Check.due("no number and no buffer", x.leave(), NONE);
     }
 
     private static void leaveDevice() {
@@ -589,7 +610,11 @@ public final class PromisesTest {
         Check.due("draining undoes none", x.loaded(later), 0x04040404);
         for (int i = 0; i < 7; i++) {
             Check.due("byte " + (80 + i), x.memory(80 + i), Math.min(i + 1, 4));
+            x.other(80 + i, 99);
         }
+        int after = load(x, 4, 0, 83);
+        x.tried(after);
+        Check.due("nothing of it is left in the buffer", x.loaded(after), 0x63636363);
     }
 
     private static void bufferOutlivesManyOps() {
@@ -718,6 +743,10 @@ public final class PromisesTest {
         int alone = load(y, 1, 0, 7);
         y.tried(alone);
         Check.due("a forgotten store gives no byte", y.loaded(alone), 7);
+        y.forget(alone);
+        Check.due("a store in its place", y.op(STORE, 2, 0), store);
+        Check.due("it has no number", y.number(store, 9), 2);
+        Check.due("it has no address", y.address(store, 9), 0);
     }
 
     private static void forgetKeepsMarksAndCounts() {
@@ -790,5 +819,36 @@ public final class PromisesTest {
         Check.throwsArgument("an old one does not wait", () -> x.forget(0));
         Check.throwsState("an old one is not kept", () -> x.loaded(105));
         Check.throwsArgument("a fence", () -> x.loaded(106));
+    }
+
+    private static void oldOpsAreNotMistakenForNewOnes() {
+        LoadStoreRows x = new LoadStoreRows();
+        store(x, 1, 5, 1);
+        x.leave();
+        x.drain();
+        x.tried(load(x, 1, 0, 5));
+        x.leave();
+        for (int i = 2; i < 192; i++) {
+            x.op(FENCE, 0, 0);
+            x.leave();
+        }
+        for (int i = 0; i < 32; i++) {
+            x.op(i % 2 == 0 ? STORE : LOAD, 1, 0);
+        }
+        for (int op = 0; op < 192; op += 32) {
+            int store = op;
+            int load = op + 1;
+            Check.throwsArgument("address of the left " + store, () -> x.address(store, 6));
+            Check.throwsArgument("number of the left " + store, () -> x.number(store, 6));
+            Check.throwsArgument("address of the left " + load, () -> x.address(load, 6));
+        }
+        x.address(193, 7);
+        for (int op = 1; op < 193; op += 32) {
+            int load = op;
+            Check.throwsArgument("try of the left " + load, () -> x.tried(load));
+        }
+        Check.due("try of the one that waits", x.tried(193), 1);
+        Check.throwsArgument("source of a left one", () -> x.source(65, 0));
+        Check.throwsArgument("source of another left one", () -> x.source(1, 0));
     }
 }
