@@ -412,8 +412,8 @@ public final class LoadStoreRows {
 
     /** What is known of the ops, in rows; an op's slot is used again by a later op. */
     private static final class OpRows {
-        // loaded may ask for the last 64, and up to 32 newer ones may have been forgotten since:
-        // 96 slots must outlive their ops, and a power of two makes every index a safe one.
+        // loaded may ask for the last 64, after up to 32 newer ones came and were forgotten: so at
+        // least 96 must keep their slots; a power of two lets a mask make every index a safe one.
         private static final int SLOTS = 128;
         private static final int SLOT_MASK = SLOTS - 1;
 
