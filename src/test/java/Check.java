@@ -5,14 +5,20 @@ final class Check {
     }
 
     private static int wrong = 0;
+    private static String subject = "";
 
     private Check() {
+    }
+
+    /** What the answers that come now are about; it is printed ahead of those that differ. */
+    static void about(String what) {
+        subject = what + ": ";
     }
 
     static void due(String what, Object got, Object want) {
         if (!want.equals(got)) {
             wrong++;
-            System.out.println(what + " answered " + got + ", due is " + want);
+            System.out.println(subject + what + " answered " + got + ", due is " + want);
         }
     }
 
@@ -39,6 +45,10 @@ final class Check {
 
     static void throwsState(String what, Call call) {
         throwsIt(what, IllegalStateException.class, call);
+    }
+
+    static void throwsUnsupported(String what, Call call) {
+        throwsIt(what, UnsupportedOperationException.class, call);
     }
 
     static void end() {
