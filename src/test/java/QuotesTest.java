@@ -40,7 +40,7 @@ public final class QuotesTest {
         return quotes;
     }
 
-    /** The document's parts by their headings ('Promise 2' for 'Promise 2: op'), without signatures and marks of form. */
+    /** The parts by their headings ("Promise 2" for "Promise 2: op"), without signatures and marks of form. */
     private static Map<String, String> parts(String document) {
         Map<String, String> parts = new LinkedHashMap<>();
         for (String part : document.split("(?m)^## ")) {
