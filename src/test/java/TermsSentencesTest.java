@@ -906,6 +906,21 @@ public final class TermsSentencesTest extends Scene {
         memoryIs("an empty buffer brings nothing", x, 20, 1, 9, 4);
     }
 
+    @Sentence(in = TERMS, promises = "9", says = "DRAINING: the oldest of the buffer goes to memory.")
+    static void anEmptyBufferBringsNothingToMemory(LoadStoreRows x) {
+        for (int stores = 1; stores <= 4; stores++) {
+            for (int i = 0; i < stores; i++) {
+                bufferedStore(x, 1, 20, 5);
+            }
+            for (int i = 0; i < stores; i++) {
+                x.drain();
+            }
+            x.other(20, stores);
+            Check.due("none after " + stores, x.drain(), NONE);
+            Check.due("memory after " + stores, x.memory(20), stores);
+        }
+    }
+
     // exceptions and constants
 
     @Sentence(in = TERMS, promises = "2, 3, 4, 5, 6, 7, 12",
